@@ -26,6 +26,7 @@ public final class WordSupper {
     private static final int MOST_DAY = 99999;
     private static final int FARTHEST = 100;
     private static final int MOST_TRIED = 40;
+    private static final int MORE_THAN_ALL = 1000000;
 
     private final Table table = new Table();
     private final Table kept = new Table();
@@ -88,19 +89,19 @@ public final class WordSupper {
             return finding(BEYOND);
         }
         switch (what) {
-            case Table.KIND: return exchange(table.kind, speaker, v);
-            case Table.LOVES: return exchange(table.loves, speaker, v);
-            case Table.FAT: return exchange(table.fat, speaker, v);
+            case Table.OF_KIND: return exchange(table.kind, speaker, v);
+            case Table.OF_LOVES: return exchange(table.loves, speaker, v);
+            case Table.OF_FAT: return exchange(table.fat, speaker, v);
             default: return exchange(table.ate, speaker, v);
         }
     }
 
     private boolean canBecome(int speaker, int what, int v) {
         switch (what) {
-            case Table.KIND: return isKind(v);
-            case Table.LOVES: return v == NOBODY || (table.isSeat(v) && v != speaker);
-            case Table.FAT: return isWithin(v, 0, MOST_FAT);
-            case Table.ATE: return isWithin(v, 0, MOST_ATE);
+            case Table.OF_KIND: return isKind(v);
+            case Table.OF_LOVES: return v == NOBODY || (table.isSeat(v) && v != speaker);
+            case Table.OF_FAT: return isWithin(v, 0, MOST_FAT);
+            case Table.OF_ATE: return isWithin(v, 0, MOST_ATE);
             default: return false;
         }
     }
@@ -168,7 +169,7 @@ public final class WordSupper {
     // ---- what will be (nothing changes)
 
     public int ahead(int speaker, int what, int n) {
-        boolean isTold = what == Table.FAT || what == Table.ATE || what == Table.LEFT;
+        boolean isTold = what == Table.OF_FAT || what == Table.OF_ATE || what == Table.OF_LEFT;
         if (!table.isSeat(speaker) || !isTold || !isWithin(n, 0, FARTHEST)) {
             return finding(BEYOND);
         }
@@ -190,21 +191,21 @@ public final class WordSupper {
         if (!table.isSeat(speaker)) {
             return finding(BEYOND);
         }
-        return firstDay(speaker, Table.LEFT, 0, 0);
+        return firstDay(speaker, Table.OF_LEFT, 0, 0);
     }
 
     public int when(int speaker, int v) {
         if (!table.isSeat(speaker) || !isWithin(v, 0, 5000)) {
             return finding(BEYOND);
         }
-        return firstDay(speaker, Table.LEFT, v, Integer.MAX_VALUE);
+        return firstDay(speaker, Table.OF_LEFT, v, MORE_THAN_ALL);
     }
 
     public int thin(int speaker) {
         if (!table.isSeat(speaker)) {
             return finding(BEYOND);
         }
-        return firstDay(speaker, Table.FAT, 0, 0);
+        return firstDay(speaker, Table.OF_FAT, 0, 0);
     }
 
     private int firstDay(int speaker, int what, int least, int most) {
@@ -225,7 +226,7 @@ public final class WordSupper {
             return finding(BEYOND);
         }
         int best = NOBODY;
-        int least = Integer.MAX_VALUE;
+        int least = MORE_THAN_ALL;
         for (int i = 0; i <= table.seats; i++) {
             int loved = i < table.seats ? i : NOBODY;
             if (loved == speaker) {
@@ -247,7 +248,7 @@ public final class WordSupper {
             return finding(BEYOND);
         }
         int best = 0;
-        int least = Integer.MAX_VALUE;
+        int least = MORE_THAN_ALL;
         for (int kind = 0; kind < KINDS; kind++) {
             spare.become(table);
             spare.kind[speaker] = kind;
@@ -280,7 +281,7 @@ public final class WordSupper {
             return finding(BEYOND);
         }
         int best = 0;
-        int least = Integer.MAX_VALUE;
+        int least = MORE_THAN_ALL;
         for (int taste = 0; taste < TASTES; taste++) {
             spare.become(table);
             spare.listed[taste] = 0;
@@ -321,7 +322,7 @@ public final class WordSupper {
             return finding(NONE);
         }
         int best = 0;
-        int least = Integer.MAX_VALUE;
+        int least = MORE_THAN_ALL;
         for (int one = 0; one < table.seats; one++) {
             for (int other = one + 1; other < table.seats; other++) {
                 spare.become(table);
@@ -752,12 +753,12 @@ public final class WordSupper {
 
     /** All that an image keeps, and how a day goes by for it. */
     private static final class Table {
-        static final int KIND = 0;
-        static final int LOVES = 1;
-        static final int FAT = 2;
-        static final int ATE = 3;
-        static final int APPETITE = 4;
-        static final int LEFT = 5;
+        static final int OF_KIND = 0;
+        static final int OF_LOVES = 1;
+        static final int OF_FAT = 2;
+        static final int OF_ATE = 3;
+        static final int OF_APPETITE = 4;
+        static final int OF_LEFT = 5;
         static final int TRAITS = 7;
 
         int day;
@@ -823,12 +824,12 @@ public final class WordSupper {
         /** The last of the traits is what tastes are on the plate. */
         int trait(int speaker, int what) {
             switch (what) {
-                case KIND: return kind[speaker];
-                case LOVES: return loves[speaker];
-                case FAT: return fat[speaker];
-                case ATE: return ate[speaker];
-                case APPETITE: return appetite(speaker);
-                case LEFT: return left(speaker);
+                case OF_KIND: return kind[speaker];
+                case OF_LOVES: return loves[speaker];
+                case OF_FAT: return fat[speaker];
+                case OF_ATE: return ate[speaker];
+                case OF_APPETITE: return appetite(speaker);
+                case OF_LEFT: return left(speaker);
                 default: return tastesOn(speaker);
             }
         }

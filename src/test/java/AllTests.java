@@ -3,8 +3,17 @@ public final class AllTests {
     private AllTests() {
     }
 
-    public static void main(String[] args) {
+    public static void main(String[] args) throws java.io.IOException {
         TableTest.run();
+        DaysTest.run();
+        CounselTest.run();
+        ToldTest.run();
+        TextTest.run();
+        SheetTest.run();
+        ImageTest.run();
+        FindingsTest.run();
+        ModelTest.run();
+        SourceTest.run();
         System.out.println(Check.right() + " answers as due, " + Check.wrong() + " not");
         if (Check.wrong() != 0) {
             System.exit(1);
