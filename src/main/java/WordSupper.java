@@ -727,15 +727,17 @@ public final class WordSupper {
         }
 
         static int hunger(int kind, int fat, int vinegar, boolean isClean) {
-            int saintly = isClean ? 6 + 20 : 6;
+            int plain = 12;
+            int legal = plain - fat / 10;
+            int saintly = plain / 2 + (isClean ? 20 : 0);
             switch (kind) {
-                case LAWYER: return 12 - fat / 10;
-                case LIAR: return Math.max(0, 12 - fat / 10 - 3);
-                case CHILD: return 6;
+                case LAWYER: return legal;
+                case LIAR: return Math.max(0, legal - 3);
+                case CHILD: return plain / 2;
                 case SAINT: return saintly;
                 case READER: return saintly + 4;
-                case COOK: return 12 + vinegar;
-                default: return 12;
+                case COOK: return plain + vinegar;
+                default: return plain;
             }
         }
 

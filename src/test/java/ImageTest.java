@@ -41,8 +41,14 @@ final class ImageTest {
         x.go(1);
         Check.due("41: what was kept stays", x.undo(), 3);
         Check.due("41: all as it was kept, again", Check.seen(x).equals(kept) ? 1 : 0, 1);
+        Check.read(x, "liar loves 0 fat 9 plate 7 7 7 7 7 7");
+        x.change(3, 3, 6);
+        x.undo();
         Check.due("41: a new speaker after it", x.speaker(0), 3);
-        Check.due("41: who is new", x.of(3, 2), 50);
+        int[] due = {0, -1, 50, 0, 12, 0, 0};
+        for (int what = 0; what <= 6; what++) {
+            Check.due("41: of who is new " + what, x.of(3, what), due[what]);
+        }
         x.go(2);
         String later = Check.seen(x);
         Check.due("40: a later image", x.image(), 1);

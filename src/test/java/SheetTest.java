@@ -60,11 +60,13 @@ final class SheetTest {
         Check.due("35: a sheet that is missing again", x.write(0, 0, 0), Check.MISSING);
         Check.due("35: an empty sheet is there", x.write(2, 0, 0), Check.BEYOND);
         x.sheet(0, 32, 2);
+        x.write(0, 0, 7);
         x.write(0, 1, 5);
         x.sheet(0, 32, -1);
         Check.due("35: findings change nothing", x.judge(0), 1);
         x.sheet(0, 32, 2);
         Check.due("35: all are 0", x.load(0), 2);
+        Check.due("35: the first", x.listed(0), 0);
         Check.due("35: the second, too", x.listed(1), 0);
     }
 

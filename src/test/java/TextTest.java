@@ -84,7 +84,7 @@ final class TextTest {
     private static void faults() {
         Object[][] rows = {
             {"", 0}, {"   ", 3}, {";", 0}, {"monk", 0}, {"  monk", 2}, {"12", 0}, {"#", 0}, {"Cook", 0}, {"cookS", 4},
-            {"cooks", 0}, {"coo", 0}, {"cook;", 5}, {"cook ; ", 7}, {"cook;;cook", 5}, {"cook cook", 5}, {"cook 1", 5},
+            {"cooks", 0}, {"coo", 0}, {"look", 0}, {"cookz", 0}, {"az", 0}, {"cook;", 5}, {"cook ; ", 7}, {"cook;;cook", 5}, {"cook cook", 5}, {"cook 1", 5},
             {"cook loves", 10}, {"cook loves ;", 11}, {"cook loves 0", 11}, {"cook;liar loves 1", 16}, {"cook;liar loves 2", 16},
             {"cook;liar loves fat", 16}, {"cook loves -1", 11}, {"cook fat", 8}, {"cook fat 100", 9}, {"cook fat plate", 9},
             {"cook fat 1 fat 1", 11}, {"cook fat 1 loves 0", 11}, {"cook plate 1 fat 1", 13}, {"cook plate", 10},
