@@ -809,7 +809,7 @@ public final class WordSupper {
             return seats >= SEATS;
         }
 
-        /** Whoever calls has seen that it is not full. A seat may have been undone, so all is told anew. */
+        /** Whoever calls has seen that it is not full. */
         int seat(int newKind) {
             int speaker = seats;
             seats++;

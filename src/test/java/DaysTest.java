@@ -152,6 +152,8 @@ final class DaysTest {
         Check.due("13: most left", x.now(5), 2);
         x.change(2, 1, 3);
         Check.due("13: all but one are loved", x.now(6), 0b1101);
+        x.change(0, 1, 1);
+        Check.due("13: all are loved", x.now(6), 0b1111);
         Check.due("13: now -1", x.now(-1), Check.BEYOND);
         Check.due("13: now 7", x.now(7), Check.BEYOND);
         WordSupper y = Check.told("cook;cook");
