@@ -13,6 +13,7 @@ public final class AllTests {
         ImageTest.run();
         FindingsTest.run();
         ModelTest.run();
+        Edges.run();
         SourceTest.run();
         System.out.println(Check.right() + " answers as due, " + Check.wrong() + " not");
         if (Check.wrong() != 0) {

@@ -33,10 +33,16 @@ final class Check {
         return wrong;
     }
 
-    /** Puts a text on the tape, byte by byte. */
+    /** Puts a text on the tape, four bytes a call: an object has 512 calls alone. */
     static void feed(WordSupper x, String text) {
-        for (byte b : text.getBytes(StandardCharsets.ISO_8859_1)) {
-            x.feed(b, 1);
+        byte[] bytes = text.getBytes(StandardCharsets.ISO_8859_1);
+        for (int begin = 0; begin < bytes.length; begin += 4) {
+            int n = Math.min(4, bytes.length - begin);
+            int packed = 0;
+            for (int i = 0; i < n; i++) {
+                packed = packed << 8 | bytes[begin + i] & 255;
+            }
+            x.feed(packed, n);
         }
     }
 
@@ -76,7 +82,7 @@ final class Check {
         x.vinegar(vinegar);
         all.append(vinegar).append(' ');
         for (int speaker = 0; speaker < x.count(1); speaker++) {
-            for (int what = 0; what <= 4; what++) {
+            for (int what = 0; what <= 3; what++) {
                 all.append(x.of(speaker, what)).append(' ');
             }
             for (int taste = 0; taste < 6; taste++) {

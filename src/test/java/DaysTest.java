@@ -5,7 +5,6 @@ final class DaysTest {
 
     static void run() {
         promise12();
-        lastDay();
         whoSaysTheList();
         suppers();
         lovesAtSupper();
@@ -31,25 +30,6 @@ final class DaysTest {
         WordSupper y = Check.told("saint;cook plate 30 0 0 0 2");
         Check.due("12: left of all", y.go(1), 19);
         Check.due("12: left of all, two days more", y.go(2), 2);
-    }
-
-    /** So many calls are beyond the 512 of the document, but no fewer reach the last day. */
-    private static void lastDay() {
-        WordSupper x = Check.told("cook");
-        for (int i = 0; i < 1666; i++) {
-            x.go(60);
-        }
-        Check.due("12: near the last day", x.go(40), Check.STATE);
-        Check.due("12: beyond ahead of state", x.go(61), Check.BEYOND);
-        Check.due("27: beyond ahead of state", x.talk(21), Check.BEYOND);
-        Check.due("12: no day went by", x.now(0), 99960);
-        x.go(20);
-        Check.due("27: near the last day", x.talk(20), Check.STATE);
-        Check.due("27: no draw", x.count(6), 1);
-        Check.due("27: up to the last day", x.talk(19), x.now(1));
-        Check.due("12: the last day", x.now(0), 99999);
-        Check.due("12: none more", x.go(1), Check.STATE);
-        Check.due("44: states", x.status(4), 3);
     }
 
     /** The list is said by the speaker of the number DAY modulo 8, if there is one. */
