@@ -11,10 +11,13 @@ final class EdgesOfCounsel {
         kindForTies();
         vinegarFor();
         unsay();
+        unsayIsNoLess();
         silence();
         silenceOfAll();
         silenceOfTheFewest();
         swapFor();
+        swapForDays();
+        swapForTastes();
         swapForFew();
         fewestDays();
         counselChangesNothing();
@@ -136,6 +139,14 @@ final class EdgesOfCounsel {
         Some.refused(Rooms::nobody, "unsay with nobody ", (y, n) -> y.unsay(n), -1, 41);
     }
 
+    private static void unsayIsNoLess() {
+        Edge.says(22, "The TASTE that THE LIST must tell no WORD of");
+        WordSupper x = Check.told("speaker plate 100;list 2 1");
+        Edge.is("unsay(1), what it talks is said all the same", x.unsay(1), 2);
+        x.list(2, 0);
+        Edge.is("unsay(1), no word is told", x.unsay(1), 0);
+    }
+
     private static void silence() {
         Edge.says(23, "the PLATE of a told one is CLEAN behind n (0 to 12) DAYS; of several the least. BEYOND. NONE.");
         WordSupper x = Check.told("speaker plate 12;cook;list 4 1");
@@ -208,6 +219,37 @@ final class EdgesOfCounsel {
         eight.serve(7, 2, 0);
         Edge.is("swapFor(0), all pairs would do", eight.swapFor(0), 1);
         Some.outside("swapFor ", 0, 20, (y, n) -> y.swapFor(n));
+    }
+
+    private static void swapForDays() {
+        Edge.says(24, "The two whose change of PLATES now leaves fewest WORDS of all together behind n (0 to 20) DAYS");
+        WordSupper x = Check.told("cook;child;child plate 0 0 9");
+        Edge.is("swapFor(0), no day goes by", x.swapFor(0), 1);
+        Edge.is("swapFor(1), the hard words to the cook", x.swapFor(1), 2);
+        // A child eats six creams a day and says one: a hundred are gone behind 20 days, a cook eats them in nine.
+        WordSupper y = Check.told("cook;cook;child plate 100;vinegar 0");
+        Edge.is("swapFor(19), five creams are left to a child", y.swapFor(19), 2);
+        Edge.is("swapFor(20), none is left", y.swapFor(20), 1);
+        y.serve(2, 0, 101);
+        Edge.is("swapFor(20), one cream is left to a child", y.swapFor(20), 2);
+    }
+
+    /** What the first one can't eat as well as the last one can, taste by taste. */
+    private static void swapForTastes() {
+        Edge.says(24, "The two whose change of PLATES now");
+        String[] texts = {
+            "child;child;cook", "child;child;cook", "child;child;cook", "child;child;cook", "child;cook;liar fat 0", "reader;reader;cook",
+        };
+        for (int taste = 0; taste < 6; taste++) {
+            // Who loves the liar eats what it says, so that its nine bites are for a lie; on day 1 it tells none.
+            WordSupper x = new WordSupper();
+            x.go(1);
+            Check.read(x, texts[taste]);
+            x.change(1, 1, 2);
+            x.serve(0, taste, 40);
+            Edge.is("swapFor(1) with 40 words of " + taste, x.swapFor(1), 2);
+            Edge.is("the plate stays", x.plate(0, taste), 40);
+        }
     }
 
     private static void swapForFew() {

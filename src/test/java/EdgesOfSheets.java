@@ -11,6 +11,7 @@ final class EdgesOfSheets {
         asKinds();
         sheet();
         sheetIsNew();
+        sheetsAreApart();
         sheetRefused();
         write();
         writeBits();
@@ -135,6 +136,28 @@ final class EdgesOfSheets {
         again.sheet(0, 8, 3);
         again.load(0);
         Edge.is("missing in between", again.listed(0) + again.listed(1) + again.listed(2), 0);
+    }
+
+    private static void sheetsAreApart() {
+        Edge.says(35, "A sheet has n numbers, all 0");
+        for (int laid = 0; laid <= 3; laid++) {
+            WordSupper x = new WordSupper();
+            for (int s = 0; s <= 3; s++) {
+                Rooms.lay(x, s, 32, filled(40, 5 + s));
+            }
+            x.sheet(laid, 32, 40);
+            for (int s = 0; s <= 3; s++) {
+                for (int i = 0; i < 40; i += 6) {
+                    int n = Math.min(6, 40 - i);
+                    x.copy(s, i, s, 0, n);
+                    x.load(s);
+                    for (int taste = 0; taste < n; taste++) {
+                        String call = "number " + (i + taste) + " of sheet " + s + " behind sheet(" + laid + ", 32, 40)";
+                        Edge.is(call, x.listed(taste), s == laid ? 0 : 5 + s);
+                    }
+                }
+            }
+        }
     }
 
     private static int[] filled(int n, int v) {

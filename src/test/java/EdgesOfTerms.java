@@ -12,15 +12,22 @@ final class EdgesOfTerms {
         numbersOfFindings();
         findingsInLongs();
         zIsNoFinding();
+        orderOfFindings();
+        quotients();
+        sets();
+        tastes();
         leastOfSeveral();
         firstState();
         tenthsAreCut();
         atMostZero();
         biteEdges();
+        allBites();
         retortsByVinegar();
         appetitesByPlate();
         appetitesByVinegar();
         talkByDays();
+        allTalk();
+        firstZ();
         draws();
     }
 
@@ -65,6 +72,70 @@ final class EdgesOfTerms {
             was = v;
         }
         Edge.is("status(-1)", x.status(-1), 0);
+    }
+
+    /** Each act of which more than one finding can hold, in a state in which they do. */
+    private static void orderOfFindings() {
+        Edge.says(T, "Each act tells its findings in the order in which they are asked (that of its words)");
+        WordSupper x = Rooms.eight();
+        Edge.is("speaker: BEYOND ahead of FULL", x.speaker(7), Check.BEYOND);
+        Edge.is("feed: BEYOND ahead of FULL", x.feed(0, 5), Check.BEYOND);
+        Edge.is("as: BEYOND ahead of MISSING", x.as(1, 7), Check.BEYOND);
+        Edge.is("as: BEYOND ahead of KIND", x.as(4, 7), Check.BEYOND);
+        Edge.is("when: BEYOND ahead of NONE", x.when(0, 5001), Check.BEYOND);
+        Edge.is("fits: MISSING ahead of the second BEYOND", x.fits(3, 8), Check.MISSING);
+        Edge.is("kinds: MISSING ahead of the second BEYOND", x.kinds(3, 8), Check.MISSING);
+        Edge.is("fits: the first BEYOND", x.fits(4, 8), Check.BEYOND);
+        Edge.is("sheet: BEYOND ahead of SIZE", x.sheet(4, 0, -1), Check.BEYOND);
+        Edge.is("sheet: SIZE, and not the second BEYOND", x.sheet(0, 0, Integer.MIN_VALUE), Check.SIZE);
+        Edge.is("write: MISSING ahead of the second BEYOND", x.write(3, 40, 0), Check.MISSING);
+        Edge.is("copy: BEYOND ahead of MISSING", x.copy(3, 0, 4, 0, 1), Check.BEYOND);
+        Edge.is("copy: MISSING ahead of KIND", x.copy(0, 0, 3, 0, 1), Check.MISSING);
+        Edge.is("copy: MISSING ahead of the second BEYOND", x.copy(3, -1, 0, 0, 1), Check.MISSING);
+        Edge.is("copy: KIND ahead of the second BEYOND", x.copy(0, -1, 1, 0, 1), Check.KIND);
+        Edge.is("swapFor: BEYOND ahead of NONE", new WordSupper().swapFor(21), Check.BEYOND);
+        WordSupper y = Check.told("cook plate 0 0 0 0 1");
+        Edge.is("vinegarFor: BEYOND ahead of NONE", y.vinegarFor(0, 41), Check.BEYOND);
+        Edge.is("silence: BEYOND ahead of NONE", y.silence(0, 13), Check.BEYOND);
+        Edge.is("clean: NONE", y.clean(0), Check.NONE);
+        Edge.is("BEYOND", y.status(0), 2);
+        Edge.is("NONE", y.status(3), 1);
+    }
+
+    private static void quotients() {
+        Edge.says(T, "Quotients are cut.");
+        Edge.is("a tenth of fat 99", Check.told("lawyer fat 99").of(0, 4), 12 - 9);
+        WordSupper x = Check.told("cook plate 0 0 0 0 0 7");
+        x.go(1);
+        Edge.is("a fourth of seven words", x.of(0, 2), 50 + 1 - 2);
+        WordSupper y = Check.told("cook plate 0 9");
+        y.go(1);
+        Edge.is("thirteen bites by three", y.of(0, 3), 4);
+    }
+
+    private static void sets() {
+        Edge.says(T, "Sets are told as bits");
+        WordSupper x = Check.told("cook;cook;cook");
+        for (int taste = 0; taste < 6; taste++) {
+            x.serve(0, taste, 1);
+            Edge.is("taste " + taste + " alone", x.of(0, 6), 1 << taste);
+            x.serve(0, taste, 0);
+        }
+        Edge.is("no taste", x.of(0, 6), 0);
+        x.serve(1, 0, 1);
+        Edge.is("the first and the third one", x.now(2), 0b101);
+    }
+
+    private static void tastes() {
+        Edge.says(T, "TASTES 0 to 5 (0 cream, 1 retort, 2 hard, 3 promise, 4 lie, 5 pears)");
+        WordSupper x = Check.told("cook");
+        for (int taste = 0; taste <= 5; taste++) {
+            Edge.is("serve(0, " + taste + ", 9)", x.serve(0, taste, 9), 0);
+            Edge.is("list(" + taste + ", 9)", x.list(taste, 9), 0);
+        }
+        Edge.is("serve(0, 6, 9)", x.serve(0, 6, 9), Check.BEYOND);
+        Edge.is("serve(0, -1, 9)", x.serve(0, -1, 9), Check.BEYOND);
+        Edge.is("left", x.of(0, 5), 54);
     }
 
     private static void leastOfSeveral() {
@@ -147,6 +218,43 @@ final class EdgesOfTerms {
         Edge.is("a lie can't be, still", x.chews(3, 4), -1);
         Edge.is("pears", x.chews(3, 5), 1);
         Edge.is("hard", x.chews(3, 2), 3);
+    }
+
+    private static void allBites() {
+        Edge.says(T, "CHEWS (bites for a WORD of a TASTE)");
+        WordSupper x = Check.told("speaker;lawyer;child;saint;reader;cook;liar;vinegar 2");
+        int[][] due = {
+            {1, 5, 5, 4, -1, 0}, {1, 1, 5, 4, -1, 0}, {1, 5, -1, 4, -1, 0}, {1, 5, 2, 4, -1, 0}, {2, 6, 3, 5, -1, 1}, {1, 3, 5, 4, -1, 0}, {1, 1, 5, 4, 9, 0},
+        };
+        for (int kind = 0; kind < 7; kind++) {
+            for (int taste = 0; taste < 6; taste++) {
+                Edge.is("kind " + kind + ", taste " + taste, x.chews(kind, taste), due[kind][taste]);
+            }
+        }
+    }
+
+    private static void allTalk() {
+        Edge.says(T, "TALKS (which WORDS it says on each DAY, besides): SPEAKER: one of cream. LAWYER: as a SPEAKER, and two retorts.");
+        // On day 0 a liar tells a lie and a child says a hard word, on day 5 a saint says pears.
+        int[][] onDay0 = {{1}, {1, 2}, {1, 0, 1}, {}, {0, 0, 0, 3}, {}, {1, 2, 0, 0, 1}};
+        int[][] onDay5 = {{1}, {1, 2}, {1}, {0, 0, 0, 0, 0, 1}, {0, 0, 0, 3}, {}, {1, 2}};
+        WordSupper x = Check.told("speaker;lawyer;child;saint;reader;cook;liar;list 0 3");
+        for (int day = 0; day <= 5; day += 5) {
+            int[][] due = day == 0 ? onDay0 : onDay5;
+            for (int kind = 0; kind < 7; kind++) {
+                for (int taste = 0; taste < 6; taste++) {
+                    int words = taste < due[kind].length ? due[kind][taste] : 0;
+                    Edge.is("kind " + kind + ", taste " + taste + ", day " + day, x.talks(kind, taste), words);
+                }
+            }
+            x.go(5);
+        }
+    }
+
+    private static void firstZ() {
+        Edge.says(T, "z is told (1 at first)");
+        Edge.is("seed(0)", new WordSupper().seed(0), 1);
+        Edge.is("count(6)", new WordSupper().count(6), 1);
     }
 
     private static void retortsByVinegar() {

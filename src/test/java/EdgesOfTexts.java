@@ -24,6 +24,7 @@ final class EdgesOfTexts {
         order();
         list();
         vinegar();
+        firstFault();
         ninthSpeaker();
         endsTooEarly();
         fullTape();
@@ -314,6 +315,29 @@ final class EdgesOfTexts {
         fault("vinegar;", 7);
         fault("vinegar 1 1", 10);
         fault("vinegar x", 8);
+    }
+
+    private static void firstFault() {
+        Edge.says(T, "FAULT: the place (from 0) of the first byte of the first TOKEN that can't stand there "
+            + "(a NUMBER that isn't as told, another WORD, a byte that begins no TOKEN");
+        fault("x;#;cook fat 100", 0);
+        fault("cook;#;cook fat 100", 5);
+        fault("cook;cook fat 100;x", 14);
+        fault("cook fat  100", 10);
+        fault("cook   monk", 7);
+        fault("cook  #", 6);
+        fault("cook;  12", 7);
+        fault("cook fat 5x", 10);
+        fault("cook fat x5", 9);
+        fault("cook plate 1 2 x", 15);
+        fault("list 0 1x", 8);
+        for (String word : new String[] {"speaker", "lawyer", "child", "saint", "reader", "cook", "liar", "list 0 1", "vinegar 1", "cook fat 1", "cook plate 1"}) {
+            fault("x" + word.substring(1), 0);
+            fault("cook;" + word + "#", 5 + word.length());
+        }
+        fault("cook xat 1", 5);
+        fault("cook xlate 1", 5);
+        fault("cook;cook xoves 0", 10);
     }
 
     private static void ninthSpeaker() {

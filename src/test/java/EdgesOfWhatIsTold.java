@@ -180,7 +180,11 @@ final class EdgesOfWhatIsTold {
         Edge.is("the day behind talk(20)", dayBehind(20), 20);
         Edge.is("talk(1) with nobody", new WordSupper().talk(1), 0);
         Edge.is("talk(20) with nobody", new WordSupper().talk(20), 0);
-        Edge.says(27, "LEFT of all together then. BEYOND.");
+        Edge.says(27, "WORDS; then a DAY: LEFT of all together then. BEYOND.");
+        // The draws from 1 tell 14 hard words; a cook eats two of these a day, and three more of the second day's cream.
+        Edge.is("talk(1)", Check.told("cook").talk(1), 12);
+        Edge.is("talk(2)", Check.told("cook").talk(2), 10);
+        Edge.is("talk(1) with two", Check.told("cook;cook plate 0 0 0 0 5").talk(1), 17);
         Some.outside("talk ", 1, 20, (x, n) -> x.talk(n));
     }
 
@@ -235,7 +239,7 @@ final class EdgesOfWhatIsTold {
     }
 
     private static void oddsInLowestTerms() {
-        Edge.says(28, "a fraction in lowest terms");
+        Edge.says(28, "each of a TASTE that is the rest by 6 of a draw, can all be chewed by a SPEAKER: a fraction in lowest terms");
         WordSupper x = Check.told("speaker;lawyer;child;saint;reader;cook;liar");
         int[] above = {5, 5, 2, 5, 5, 5, 1};
         int[] below = {6, 6, 3, 6, 6, 6, 1};
