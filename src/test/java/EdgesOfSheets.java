@@ -1,3 +1,4 @@
+import java.util.Arrays;
 import java.util.function.Supplier;
 
 /** The edges of promises 33 to 39: spots and sheets. */
@@ -162,7 +163,7 @@ final class EdgesOfSheets {
 
     private static int[] filled(int n, int v) {
         int[] numbers = new int[n];
-        java.util.Arrays.fill(numbers, v);
+        Arrays.fill(numbers, v);
         return numbers;
     }
 
@@ -231,7 +232,10 @@ final class EdgesOfSheets {
             Edge.is(row[1] + " of " + row[0] + " bits as words left", judged(x), 1);
         }
         Edge.says(Doc.TERMS, "(told with their sign: of 8 bits 255 is -1)");
-        int[][] any = {{8, 255, 63}, {8, -1, 63}, {8, 511, 63}, {8, 254, 0}, {8, 128, 0}, {16, 255, 0}, {16, 65535, 63}, {16, -1, 63}, {16, 65534, 0}, {32, -1, 63}, {32, 255, 0}, {32, 65535, 0}, {32, Some.LOWEST, 0}};
+        int[][] any = {
+            {8, 255, 63}, {8, -1, 63}, {8, 511, 63}, {8, 254, 0}, {8, 128, 0}, {16, 255, 0},
+            {16, 65535, 63}, {16, -1, 63}, {16, 65534, 0}, {32, -1, 63}, {32, 255, 0}, {32, 65535, 0}, {32, Some.LOWEST, 0},
+        };
         for (int[] row : any) {
             WordSupper x = leftOf(0);
             Rooms.lay(x, 0, row[0], row[1]);
@@ -379,7 +383,8 @@ final class EdgesOfSheets {
     private static void load() {
         Edge.says(38, "It ends at the first that isn't 0 to 20, or for which there is no TASTE. BEYOND: no such sheet. MISSING.");
         int[][] rows = {
-            {}, {0}, {20}, {21}, {-1}, {20, 20, 20, 20, 20, 20}, {0, 0, 0, 0, 0, 0, 0}, {1, 2, 3, 4, 5, 6, 21}, {1, 21, 3}, {1, 2, -1, 4}, {1, 2, 3, 4, 5, 21}, {1, 2, 3, 4, 5, -1, 7}, {Some.LOWEST}, {1, Some.HIGHEST},
+            {}, {0}, {20}, {21}, {-1}, {20, 20, 20, 20, 20, 20}, {0, 0, 0, 0, 0, 0, 0}, {1, 2, 3, 4, 5, 6, 21},
+            {1, 21, 3}, {1, 2, -1, 4}, {1, 2, 3, 4, 5, 21}, {1, 2, 3, 4, 5, -1, 7}, {Some.LOWEST}, {1, Some.HIGHEST},
         };
         int[] came = {0, 1, 1, 0, 0, 6, 6, 6, 1, 2, 5, 5, 0, 1};
         for (int i = 0; i < rows.length; i++) {
@@ -388,7 +393,7 @@ final class EdgesOfSheets {
                 x.list(taste, 9);
             }
             Rooms.lay(x, 3, 32, rows[i]);
-            String call = "load of " + java.util.Arrays.toString(rows[i]);
+            String call = "load of " + Arrays.toString(rows[i]);
             Edge.is(call, x.load(3), came[i]);
             for (int taste = 0; taste < 6; taste++) {
                 Edge.is("listed(" + taste + ") behind " + call, x.listed(taste), taste < came[i] ? rows[i][taste] : 9);
@@ -445,7 +450,7 @@ final class EdgesOfSheets {
     }
 
     private static void judges(int due, int... numbers) {
-        String call = "judge of " + java.util.Arrays.toString(numbers);
+        String call = "judge of " + Arrays.toString(numbers);
         Edge.onlyTells(() -> numbers(Check.told("cook plate 0 0 0 0 3;cook;cook plate 999 999 999 999 999 999"), numbers), call, due, x -> x.judge(0));
     }
 

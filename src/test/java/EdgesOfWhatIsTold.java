@@ -169,7 +169,6 @@ final class EdgesOfWhatIsTold {
         Edge.says(27, "n times (1 to 20) two draws");
         WordSupper one = Check.told("cook;cook plate 5");
         WordSupper twenty = Check.told("cook;cook plate 5");
-        twenty.seed(1);
         int left = 0;
         for (int i = 0; i < 20; i++) {
             left = one.talk(1);
