@@ -3,7 +3,7 @@ public final class AllTests {
     private AllTests() {
     }
 
-    public static void main(String[] args) throws java.io.IOException {
+    public static void main(String[] args) throws Exception {
         TableTest.run();
         DaysTest.run();
         CounselTest.run();
@@ -15,6 +15,7 @@ public final class AllTests {
         ModelTest.run();
         Edges.run();
         SourceTest.run();
+        ReadmeTest.run();
         System.out.println(Check.right() + " answers as due, " + Check.wrong() + " not");
         if (Check.wrong() != 0) {
             System.exit(1);
